@@ -15,7 +15,8 @@ final class Bench {
         asked++;
         if (got != want) {
             wrong++;
-            System.out.println(name + ": " + what + " answered " + got + ", due is " + want);
+            String shown = what.length() > 300 ? what.substring(0, 300) + " .." : what;
+            System.out.println(name + ": " + shown + " answered " + got + ", due is " + want);
         }
     }
 
