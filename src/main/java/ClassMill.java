@@ -1149,8 +1149,8 @@ public final class ClassMill {
         private final int[] parameters = new int[CLASSES_MOST * MEMBERS_MOST];
         private final int[] parameterName = new int[CLASSES_MOST * MEMBERS_MOST * PARAMETERS_MOST];
         private final int[] parameterType = new int[CLASSES_MOST * MEMBERS_MOST * PARAMETERS_MOST];
-        private final int[] className = new int[Kin.CLASSES];
-        private final int[] arrayName = new int[Kin.CLASSES];
+        /** The TEXT's number of each class and, behind them, of each array of a class. */
+        private final int[] typeName = new int[Kin.CLASSES * 2];
         private final byte[] kindBytes = new byte[KIND_ROOM];
         private int kindSize;
 
@@ -1207,8 +1207,8 @@ public final class ClassMill {
         /** Kinds are numbered with the names, for a TEXT is a TEXT whatever it tells. */
         void nameKinds() {
             for (int c = 0; c < Kin.BUILT_IN + classes && c < Kin.CLASSES && text.fault == 0; c++) {
-                className[c] = c < Kin.BUILT_IN ? c : text.valueAt(tokenOfClass(c - Kin.BUILT_IN));
-                arrayName[c] = nameKind(Kin.ARRAY + c);
+                typeName[c] = c < Kin.BUILT_IN ? c : text.valueAt(tokenOfClass(c - Kin.BUILT_IN));
+                typeName[Kin.CLASSES + c] = nameKind(Kin.ARRAY + c);
             }
             for (int f = 0; f < fieldName.length && text.fault == 0; f++) {
                 if (f % MEMBERS_MOST < fields[f / MEMBERS_MOST]) {
@@ -1257,7 +1257,7 @@ public final class ClassMill {
                 return;
             }
             addKindByte('L');
-            int name = className[of];
+            int name = typeName[of];
             text.copyName(name, kindBytes, kindSize);
             kindSize = Math.min(kindSize + text.nameLength(name), kindBytes.length);
             addKindByte(';');
@@ -1284,10 +1284,10 @@ public final class ClassMill {
         /** The number of the TEXT that a CLASS of that type has. */
         int nameOfType(int type) {
             if (type >= 0 && type < Kin.CLASSES) {
-                return className[type];
+                return typeName[type];
             }
             boolean ofClass = type >= Kin.ARRAY && type < Kin.ARRAY + Kin.CLASSES;
-            return ofClass ? arrayName[type - Kin.ARRAY] : Text.INTS_NAME;
+            return ofClass ? typeName[Kin.CLASSES + type - Kin.ARRAY] : Text.INTS_NAME;
         }
 
         int tokenOfClass(int k) {
@@ -2024,7 +2024,7 @@ public final class ClassMill {
             int base = open;
             readUnary(depth + 1);
             for (int turn = 0; turn < Text.MOST && Text.level(text.kind()) > 0; turn++) {
-                while (isSignDue(base, Text.level(text.kind()))) {
+                for (int s = 0; s < SIGNS_ROOM && isSignDue(base, Text.level(text.kind())); s++) {
                     closeSign();
                 }
                 if (text.kind() == Text.INSTANCEOF) {
@@ -2034,7 +2034,7 @@ public final class ClassMill {
                     readUnary(depth + 1);
                 }
             }
-            while (isSignDue(base, 1)) {
+            for (int s = 0; s < SIGNS_ROOM && isSignDue(base, 1); s++) {
                 closeSign();
             }
             if (text.kind() == Text.QUESTION) {
@@ -3323,7 +3323,7 @@ public final class ClassMill {
             return image.builtIn(from, stop);
         }
 
-        /** The type that the kind at from .. stop tells (a boolean is an INT here), or NONE if its class isn't there. */
+        /** The type that a kind tells (a boolean is an INT here), or NONE if its class isn't there. */
         int typeOfKind(Image image, int from, int stop) {
             int letter = image.byteAt(from);
             if (letter == 'I' || letter == 'Z') {
@@ -4254,8 +4254,8 @@ public final class ClassMill {
         private int prints;
         private final int[] printed = new int[PRINTS_KEPT];
         private final int[] objectType = new int[OBJECTS_MOST + 1];
-        private final int[] objectAt = new int[OBJECTS_MOST + 1];
-        private final int[] objectSize = new int[OBJECTS_MOST + 1];
+        /** Where in cell each object begins; it ends where the next one will. */
+        private final int[] objectAt = new int[OBJECTS_MOST + 2];
         private final int[] cell = new int[CELLS_MOST];
         private final int[] methods = new int[METHODS_MOST];
         private final int[] places = new int[METHODS_MOST];
@@ -4266,8 +4266,7 @@ public final class ClassMill {
         private int top;
         private Image image;
         private int code;
-        /** What the latest STEP throws: a new object of a class, or an object that is there. */
-        private int raised;
+        /** What the latest STEP throws: an object, or below 0 a new one of that class. */
         private int thrown;
 
         Machine(Space space) {
@@ -4296,14 +4295,13 @@ public final class ClassMill {
             int done = 0;
             while (done < n && state == GOING) {
                 step();
-                if (raised != 0) {
-                    thrown = make(raised, 0);
-                    raised = 0;
+                if (thrown < 0) {
+                    thrown = make(-thrown, 0);
                 }
-                if (thrown != 0) {
+                if (thrown > 0) {
                     throwUp(thrown);
-                    thrown = 0;
                 }
+                thrown = 0;
                 done++;
             }
             steps += done;
@@ -4485,7 +4483,7 @@ public final class ClassMill {
             int b = pop();
             int a = pop();
             if (b == 0 && (op == 108 || op == 112)) {
-                raised = ARITH_FAULT;
+                thrown = -ARITH_FAULT;
             } else {
                 give(computed(op, a, b), 1);
             }
@@ -4609,11 +4607,11 @@ public final class ClassMill {
         /** Where in cell the element is; without one the fault is thrown, and it is NONE. */
         private int cellOf(int array, int index) {
             if (!isObject(array)) {
-                raised = NULL_FAULT;
+                thrown = -NULL_FAULT;
                 return NONE;
             }
-            if (index < 0 || index >= objectSize[array]) {
-                raised = INDEX_FAULT;
+            if (index < 0 || index >= objectAt[array + 1] - objectAt[array]) {
+                thrown = -INDEX_FAULT;
                 return NONE;
             }
             return objectAt[array] + index;
@@ -4637,7 +4635,7 @@ public final class ClassMill {
                 return;
             }
             if (op == 83 && isObject(value) && !space.kin.fits(objectType[value], Kin.elementOf(objectType[array]))) {
-                raised = STORE_FAULT;
+                thrown = -STORE_FAULT;
                 return;
             }
             cell[i] = value;
@@ -4653,7 +4651,7 @@ public final class ClassMill {
             int object = pop();
             int i = fieldCell(object, link(arg));
             if (i == NONE) {
-                raised = NULL_FAULT;
+                thrown = -NULL_FAULT;
             } else {
                 give(cell[i], 2);
             }
@@ -4664,7 +4662,7 @@ public final class ClassMill {
             int object = pop();
             int i = fieldCell(object, link(arg));
             if (i == NONE) {
-                raised = NULL_FAULT;
+                thrown = -NULL_FAULT;
             } else {
                 cell[i] = value;
                 goOn(2);
@@ -4687,7 +4685,7 @@ public final class ClassMill {
             if (op == 182) {
                 int object = stack[top * PLACES + from];
                 if (!isObject(object)) {
-                    raised = NULL_FAULT;
+                    thrown = -NULL_FAULT;
                     return;
                 }
                 number = space.nearestTo(objectType[object], number);
@@ -4729,9 +4727,9 @@ public final class ClassMill {
             objects++;
             objectType[objects] = type;
             objectAt[objects] = cells;
-            objectSize[objects] = size;
             Arrays.fill(cell, cells, cells + size, 0);
             cells += size;
+            objectAt[objects + 1] = cells;
             return objects;
         }
 
@@ -4745,7 +4743,7 @@ public final class ClassMill {
         private void stepNewArray(int type) {
             int size = pop();
             if (size < 0) {
-                raised = SIZE_FAULT;
+                thrown = -SIZE_FAULT;
             } else {
                 giveNew(type, size);
             }
@@ -4754,9 +4752,9 @@ public final class ClassMill {
         private void stepLength() {
             int array = pop();
             if (isObject(array)) {
-                give(objectSize[array], 1);
+                give(objectAt[array + 1] - objectAt[array], 1);
             } else {
-                raised = NULL_FAULT;
+                thrown = -NULL_FAULT;
             }
         }
 
@@ -4768,18 +4766,20 @@ public final class ClassMill {
             } else if (object == 0 || fitting) {
                 give(object, 2);
             } else {
-                raised = CAST_FAULT;
+                thrown = -CAST_FAULT;
             }
         }
 
         private void stepThrow() {
-            thrown = pop();
-            if (thrown == 0) {
-                raised = NULL_FAULT;
-            }
+            int object = pop();
+            thrown = object == 0 ? -NULL_FAULT : object;
         }
 
         private void throwUp(int object) {
+            if (!isObject(object)) {
+                state = STUCK;
+                return;
+            }
             for (int turn = 0; turn < METHODS_MOST && depth > 0; turn++) {
                 takeTop();
                 if (isCaught(object)) {
