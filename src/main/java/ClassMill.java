@@ -317,10 +317,10 @@ public final class ClassMill {
             if (a >= 0 && a < CLASSES) {
                 return b >= 0 && b < CLASSES && under[a * CLASSES + b];
             }
-            if (a < ARRAY || a > INTS || b == OBJECT) {
-                return b == OBJECT && a >= ARRAY && a <= INTS;
+            if (b == OBJECT) {
+                return a >= ARRAY && a <= INTS;
             }
-            boolean ofClasses = a < ARRAY + CLASSES && b >= ARRAY && b < ARRAY + CLASSES;
+            boolean ofClasses = a >= ARRAY && a < ARRAY + CLASSES && b >= ARRAY && b < ARRAY + CLASSES;
             return ofClasses && under[(a - ARRAY) * CLASSES + b - ARRAY];
         }
 
