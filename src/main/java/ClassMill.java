@@ -416,6 +416,7 @@ public final class ClassMill {
         static final int NOT = 71;
         static final int TILDE = 72;
 
+        static final int LEVELS = 10;
         static final int RELATION_LEVEL = 7;
 
         /** The classes 0 to 7 first, so that their names' numbers are theirs; then length; then the WORDS. */
@@ -424,8 +425,11 @@ public final class ClassMill {
         private static final int FIRST_WORD_NAME = 9;
         static final int INTS_NAME = 31;
         private static final int KNOWN_NAMES = 32;
-        static final int NAMES_MOST = 1600;
-        private static final int LETTERS_MOST = 9000;
+        private static final int KINDS_MOST = Kin.CLASSES + 2 * Heads.CLASSES_MOST * Heads.MEMBERS_MOST;
+        /** A name takes two bytes of the TEXT at least, with what parts it from the next; then come the kinds. */
+        static final int NAMES_MOST = KNOWN_NAMES + MOST / 2 + KINDS_MOST;
+        /** No kind is longer than the head in the TEXT that it is of; those of the classes 0 to 7 are known, too. */
+        private static final int LETTERS_MOST = 400 + 2 * MOST;
         private static final int NAME_LONGEST = 12;
         private static final long GREATEST = 2147483647L;
         private static final int BUCKETS = 64;
@@ -1128,7 +1132,8 @@ public final class ClassMill {
         static final int CLASSES_MOST = 8;
         static final int MEMBERS_MOST = 12;
         static final int PARAMETERS_MOST = 6;
-        private static final int CLASSES_READ = 400;
+        /** One takes nine bytes of the TEXT at least (class K{}); one more may be begun where a FAULT is told. */
+        private static final int CLASSES_READ = Text.MOST / 9 + 1;
         private static final int KIND_ROOM = 128;
 
         private final Text text;
@@ -1722,14 +1727,15 @@ public final class ClassMill {
         private static final int STACK_MOST = 20;
         private static final int HANDLERS_MOST = 20;
         private static final int FRAMES_MOST = 100;
-        private static final int SIGHT_ROOM = 400;
-        private static final int STACK_ROOM = 1024;
+        /** A parameter takes four bytes of the TEXT at least (K a,) and a variable six, so no TEXT brings more. */
+        private static final int SIGHT_ROOM = Text.MOST / 4;
         private static final int ROW = 2 + LOCALS_MOST + STACK_MOST;
         private static final int HANDLER_ROW = 4;
 
         private final byte[] bytes = new byte[CODE_MOST];
         int length;
-        private final int[] stack = new int[STACK_ROOM];
+        /** What stands above STACK_MOST is only counted: the method is MUCH then, and no FRAME tells of it. */
+        private final int[] stack = new int[STACK_MOST];
         private int height;
         private int mostHeight;
         private final int[] localName = new int[SIGHT_ROOM];
@@ -1789,8 +1795,6 @@ public final class ClassMill {
             if (n < localName.length) {
                 localName[n] = name;
                 localType[n] = type;
-            } else {
-                full = true;
             }
             sight++;
             mostLocals = Math.max(mostLocals, sight);
@@ -1959,7 +1963,8 @@ public final class ClassMill {
         static final int ELEMENT = 4;
 
         private static final int DEEPEST = Syntax.DEEPEST + 2;
-        private static final int SIGNS_ROOM = 512;
+        /** In one E no two signs of a level wait at once. */
+        private static final int SIGNS_ROOM = Text.LEVELS * DEEPEST;
         private static final int ANY = 0;
         private static final int BY_VALUE = 1;
         private static final int BY_CLASS = 2;
@@ -2501,7 +2506,8 @@ public final class ClassMill {
     /** Reads each BLOCK once more, holds it against the RULES, makes its CODE and the IMAGES. */
     private static final class Bodies {
         private static final int DEEPEST = Syntax.DEEPEST + 2;
-        private static final int BREAKS_ROOM = 512;
+        /** One takes six bytes of the TEXT (break;). */
+        private static final int BREAKS_ROOM = Text.MOST / 6;
 
         private final Text text;
         private final Heads heads;
