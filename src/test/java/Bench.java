@@ -74,6 +74,9 @@ final class Bench {
         due("place of " + text, mill.fault(1), ClassMill.NONE);
         for (int k = 0; k < images; k++) {
             due("keep " + k + " of " + text, mill.keep(k), 8 + k);
+            if (k < mill.look(11)) {
+                new Made(image(mill, k)).hold(this, text);
+            }
         }
         due("verify of " + text, mill.verify(), 0);
     }
@@ -111,6 +114,31 @@ final class Bench {
             mill.run(20000);
         }
         return mill;
+    }
+
+    /** All that some seventy calls tell of a mill but its tape: images, FAULT, space, where, run. */
+    static String seen(ClassMill mill) {
+        StringBuilder row = new StringBuilder();
+        for (int what = 0; what <= 12; what++) {
+            row.append(mill.look(what)).append(' ');
+        }
+        for (int what = 0; what < 3; what++) {
+            row.append(mill.fault(what)).append(' ').append(mill.where(what)).append(' ').append(mill.out(what)).append(' ');
+        }
+        for (int k = 0; k < 3; k++) {
+            row.append(mill.image(k, ClassMill.NONE)).append(' ').append(mill.image(k, 2)).append(' ').append(mill.image(k, 5)).append(' ');
+        }
+        for (int c = 8; c < 16; c++) {
+            for (int what = 0; what < 5; what++) {
+                row.append(mill.type(c, what)).append(' ');
+            }
+        }
+        return row.toString();
+    }
+
+    void stays(String what, String before, ClassMill mill) {
+        String behind = seen(mill);
+        due(what + " leaves all as it was: " + before + "/ " + behind, behind.equals(before), true);
     }
 
     void printed(ClassMill mill, String text, int... values) {
