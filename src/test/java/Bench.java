@@ -75,7 +75,7 @@ final class Bench {
         for (int k = 0; k < images; k++) {
             due("keep " + k + " of " + text, mill.keep(k), 8 + k);
             if (k < mill.look(11)) {
-                new Made(image(mill, k)).hold(this, text);
+                new Made(image(text, k)).hold(this, text);
             }
         }
         due("verify of " + text, mill.verify(), 0);
@@ -84,6 +84,21 @@ final class Bench {
     static byte[] image(ClassMill mill, int k) {
         byte[] row = new byte[mill.image(k, ClassMill.NONE)];
         for (int i = 0; i < row.length; i++) {
+            row[i] = (byte) mill.image(k, i);
+        }
+        return row;
+    }
+
+    /** An IMAGE of any length, asked of as many mills as it takes: none is promised to answer behind its 512th call. */
+    static byte[] image(String text, int k) {
+        ClassMill mill = new ClassMill();
+        compile(mill, text);
+        byte[] row = new byte[Math.max(0, mill.image(k, ClassMill.NONE))];
+        for (int i = 0; i < row.length; i++) {
+            if (i % 300 == 299) {
+                mill = new ClassMill();
+                compile(mill, text);
+            }
             row[i] = (byte) mill.image(k, i);
         }
         return row;

@@ -27,6 +27,7 @@ public final class EdgeCodeTest {
         membersNamed(b);
         wantedFirst(b);
         textsAfterTexts(b);
+        manyTexts(b);
         b.end();
     }
 
@@ -34,7 +35,7 @@ public final class EdgeCodeTest {
         ClassMill x = new ClassMill();
         Bench.compile(x, text);
         b.due("FAULT of " + text + " at " + x.fault(1), x.fault(0), 0);
-        return new Made(Bench.image(x, k));
+        return new Made(Bench.image(text, k));
     }
 
     private static void same(Bench b, String what, int[] got, int... want) {
@@ -371,21 +372,26 @@ public final class EdgeCodeTest {
         for (int i = 0; i < 29; i++) {
             row.append(i % 2 == 0 ? "int" : "A").append(" v").append(i).append(i % 2 == 0 ? "=1;" : "=null;");
         }
-        String text = row + "print(" + "1+(".repeat(19) + "(z?1:2)" + ")".repeat(19) + ");}}";
+        String print = "print(" + "1+(".repeat(19) + "(z?1:2)" + ")".repeat(19) + ");";
+        String text = row + print + print + "if(z)print(1);}}";
         b.right(text, 1);
         Made made = made(b, text, 0);
         Made.Method m = made.methods.get(0);
         b.due("LOCALS", m.locals, 30);
         b.due("STACK", m.stack, 20);
-        int[] locals = m.frameLocals.get(1);
-        int[] stack = m.frameStacks.get(1);
-        b.due("locals", locals.length, 30);
-        b.due("on the stack", stack.length, 20);
-        for (int i = 0; i < 30; i++) {
-            b.due("local " + i, locals[i] < 0, i == 0 || i % 2 == 1);
-        }
-        for (int i = 0; i < 20; i++) {
-            b.due("on the stack " + i, stack[i], -1);
+        b.due("FRAMES", m.places.size(), 5);
+        int[] heights = {19, 20, 19, 20, 0};
+        for (int f = 0; f < heights.length; f++) {
+            int[] locals = m.frameLocals.get(f);
+            int[] stack = m.frameStacks.get(f);
+            b.due("locals", locals.length, 30);
+            b.due("on the stack", stack.length, heights[f]);
+            for (int i = 0; i < 30; i++) {
+                b.due("local " + i, locals[i] < 0, i == 0 || i % 2 == 1);
+            }
+            for (int type : stack) {
+                b.due("on the stack", type, -1);
+            }
         }
     }
 
@@ -448,6 +454,35 @@ public final class EdgeCodeTest {
         }
     }
 
+    private static void feedTwenty(ClassMill x, String text) {
+        int[] n = new int[5];
+        for (int i = 0; i < 20; i++) {
+            n[i / 4] = n[i / 4] << 8 | text.charAt(i);
+        }
+        x.feed(n[0], n[1], n[2], n[3], n[4]);
+    }
+
+    /** As many texts as 512 calls can bring, each with seven names of its own, and then a right one. */
+    private static void manyTexts(Bench b) {
+        String letters = "abcdefghijklmnopqrstuvwxyzABCDEFGHIJKLMNOPQRSTUVWXYZ";
+        ClassMill x = new ClassMill();
+        int name = 0;
+        for (int turn = 0; turn < 252; turn++) {
+            StringBuilder text = new StringBuilder();
+            for (int i = 0; i < 7; i++) {
+                text.append(letters.charAt(name / 52)).append(letters.charAt(name % 52)).append(i < 6 ? " " : "");
+                name++;
+            }
+            feedTwenty(x, text.toString());
+            b.due("compile of " + text, x.compile(), -1);
+        }
+        b.due("FAULT", x.fault(0) * 10 + x.fault(1), 20);
+        feedTwenty(x, "class Zoe{Zoe zoe;} ");
+        b.due("the right one", x.compile(), 1);
+        b.due("its size", x.image(0, -1), 38);
+        b.due("its name's length", x.image(0, 4), 3);
+    }
+
     /** What a text gives is no matter of the texts before it. */
     private static void textsAfterTexts(Bench b) {
         String[] texts = {"class A{int x;int y;int f(int a,int b,int c){return a;}int g(boolean z){return 1;}}class B extends A{int h(A a){return a.f(1,2,3);}}",
@@ -458,19 +493,24 @@ public final class EdgeCodeTest {
             "class A{void m(){int a=1;int b=2;}void n(){@a=1;}}", "class A{boolean z;void m(){while(z){z=!z;if(z)break;}}}", "class A{void m(){@break;}}",
             "class Q{R r;}class R{int x;}", "class Q{@R r;}", "class A{void m(int a,int b){}}class B extends A{void m(int a,int b){}}",
             "class A{void m(){}}class B extends A{void m(){}}", "class A{void m(){}}class B{int m(){return 1;}}"};
-        ClassMill one = new ClassMill();
-        for (String marked : texts) {
-            int mark = marked.indexOf('@');
-            String text = marked.replace("@", "");
-            ClassMill fresh = new ClassMill();
-            int images = Bench.compile(fresh, text);
-            b.due("compile of " + text, Bench.compile(one, text), images);
-            b.due("compile of " + text, images >= 0, mark < 0);
-            b.due("FAULT of " + text, one.fault(0), fresh.fault(0));
-            b.due("PLACE of " + text, one.fault(1), mark);
-            for (int k = 0; k < images; k++) {
-                b.due("IMAGE of " + text, Arrays.equals(Bench.image(one, k), Bench.image(fresh, k)), true);
+        for (String before : texts) {
+            for (String behind : texts) {
+                oneBehindTheOther(b, before.replace("@", ""), behind.replace("@", ""), behind.indexOf('@'));
             }
+        }
+    }
+
+    private static void oneBehindTheOther(Bench b, String before, String text, int place) {
+        ClassMill fresh = new ClassMill();
+        int images = Bench.compile(fresh, text);
+        ClassMill x = new ClassMill();
+        Bench.compile(x, before);
+        b.due("compile of " + text + " behind " + before, Bench.compile(x, text), images);
+        b.due("compile of " + text, images >= 0, place < 0);
+        b.due("FAULT of " + text + " behind " + before, x.fault(0), fresh.fault(0));
+        b.due("PLACE of " + text + " behind " + before, x.fault(1), place);
+        for (int k = 0; k < images; k++) {
+            b.due("IMAGE of " + text + " behind " + before, Arrays.equals(Bench.image(x, k), Bench.image(fresh, k)), true);
         }
     }
 }

@@ -99,12 +99,12 @@ public final class EdgeLoadTest {
         }
         row.text("A").text("m").text("()I").text("x").text("I").text("(IZLA;[I[LA;LA;)I").text("n");
         row.put(4, 1, 246, 247).put(4, 1, 244, 245).put(4, 1, 249, 248).put(3, 2).put(2, 128, 0, 0, 1);
-        return row.put(4, 1, 249, 248);
+        return row.put(4, 1, 246, 247);
     }
 
     private static void constant255(Bench b) {
-        int[] m = {187, 1, 89, 18, 254, 181, 250, 180, 250, 172};
-        int[] n = {21, 0, 21, 1, 25, 2, 25, 3, 25, 4, 25, 5, 184, 255, 172};
+        int[] m = {187, 1, 89, 18, 254, 181, 255, 180, 250, 172};
+        int[] n = {21, 0, 21, 1, 25, 2, 25, 3, 25, 4, 25, 5, 184, 252, 172};
         Bench.Row row = constants255().put(1, 3, 1, 246, 247, 2);
         row.put(1, 244, 245, 3, 0).pair(m.length).put(m).put(0, 0);
         row.put(1, 249, 248, 6, 6).pair(n.length).put(n).put(0, 0);
@@ -258,6 +258,12 @@ public final class EdgeLoadTest {
         for (int u : new int[] {0, 2, 5, 7, 9, 10, 255}) {
             form(b, "MEMBER of kind " + u, head(9).text("x").text("I").put(2, 0, 0, 0, 0).put(3, 5).put(4, 2, 5, u).put(2, 4, 0, 0).bytes(), member + 2);
         }
+        for (int t : new int[] {0, 1, 3, 5, 255}) {
+            form(b, "the first is a CLASS of " + t, new Bench.Row().put(74, 77, 4).put(3, t).text("A").put(3, 4).text("Object").put(1, 3, 0, 0).bytes(), 4);
+        }
+        form(b, "the first is a CLASS", new Bench.Row().put(74, 77, 4).put(3, 2).text("A").put(3, 4).text("Object").put(1, 3, 0, 0).bytes(), -1);
+        form(b, "the first is a MEMBER", new Bench.Row().put(74, 77, 6).put(4, 3, 2, 6).text("A").put(3, 2).text("Object").put(3, 4).text("I").put(3, 5, 0, 0).bytes(), -1);
+        form(b, "the first is a wrong MEMBER", new Bench.Row().put(74, 77, 6).put(4, 3, 2, 2).text("A").put(3, 2).text("Object").put(3, 4).text("I").put(3, 5, 0, 0).bytes(), 6);
         form(b, "MEMBER of the last", head(9).text("x").text("I").put(2, 0, 0, 0, 0).put(4, 9, 5, 6).put(3, 1).put(2, 4, 0, 0).bytes(), -1);
         byte[] row = head(9).text("x").text("I").put(2, 0, 0, 0, 0).put(3, 5).put(4, 2, 5, 6).put(2, 4, 1, 5, 6, 0).bytes();
         int at = member + 3;
@@ -532,9 +538,8 @@ public final class EdgeLoadTest {
         b.due("patch of the last byte", x.patch(8, 5999, 0), true);
         b.due("patch behind it", x.patch(8, 6000, 0), false);
         b.due("verify", x.verify(), 0);
-        ClassMill y = new ClassMill();
-        b.due("the last of 6000 bytes is wrong", Bench.load(y, with(whole, 5999, 13)), -2 - 5999);
-        b.due("the last of 6000 bytes is missing", Bench.load(y, Arrays.copyOf(whole, 5999)), -2 - 5999);
+        form(b, "the last of 6000 bytes is wrong", with(whole, 5999, 13), 5999);
+        form(b, "the last of 6000 bytes is missing", Arrays.copyOf(whole, 5999), 5999);
     }
 
     /** "the class, the next one of the SPACE" */

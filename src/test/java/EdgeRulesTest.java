@@ -391,6 +391,13 @@ public final class EdgeRulesTest {
         own(b, 5, "x=i.@len;");
         own(b, 5, "x=a.@length;");
         own(b, 5, "x=@length;");
+        b.fault(5, "class A{@length x;}");
+        b.fault(5, "class A{void m(@length[] x){}}");
+        b.fault(5, "class A extends @length{}");
+        own(b, 5, "@length n=null;");
+        own(b, 5, "o=new @length();");
+        own(b, 5, "@length.w();");
+        b.right("class length{int length;static length length(length length){return length;}void m(){length=length(this).length;}}", 1);
         own(b, 6, "x=null@.length;");
         own(b, 6, "x=x@.length;");
         own(b, 6, "x=z@.q();");

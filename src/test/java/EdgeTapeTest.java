@@ -213,11 +213,13 @@ public final class EdgeTapeTest {
         fault(b, "class A{}class", "es", 2, 14);
         fault(b, "class A{}class B", "bcdefghijklm", 2, 16);
         String head = "class A{void m(){";
-        String[] signs = {"=", "!", "<", ">", "&", "|"};
+        String[] signs = {"=", "<", ">", "&", "|"};
         for (String sign : signs) {
-            boolean isNot = sign.equals("!");
-            fault(b, head + "x" + sign, sign + "=", 2, isNot ? head.length() + 1 : head.length() + 2);
+            fault(b, head + "x" + sign, sign + "=", 2, head.length() + 2);
         }
+        // alone these can't stand there, with what stood behind they could
+        fault(b, head + "x!", "=1;}}", 2, head.length() + 1);
+        fault(b, head + "x=1=", "=1;}}", 2, head.length() + 3);
         fault(b, head + "x=1>>", ">1;}}", 2, head.length() + 5);
         fault(b, head + "x=2147483647", "0;}}", 2, head.length() + 12);
         fault(b, head + "x=0", "1", 2, head.length() + 3);

@@ -28,7 +28,7 @@ public final class FuzzTest {
                 test.changedImages(text);
             }
         }
-        for (int i = 0; i < 300; i++) {
+        for (int i = 0; i < 500; i++) {
             test.anyCalls();
         }
         test.bench.end();
@@ -121,7 +121,7 @@ public final class FuzzTest {
     private void anyCalls() {
         ClassMill mill = new ClassMill();
         Bench.compile(mill, TEXTS[random.nextInt(TEXTS.length)]);
-        for (int call = 0; call < 400; call++) {
+        for (int call = 0; call < 230; call++) {
             switch (random.nextInt(18)) {
                 case 0:
                     mill.feed(any(), any(), any(), any(), any());
