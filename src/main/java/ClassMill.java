@@ -2871,7 +2871,6 @@ public final class ClassMill {
         static final int HANDLER_BYTES = 7;
         private static final String BUILT_IN = "Object Fault NullFault IndexFault ArithFault CastFault SizeFault StoreFault ";
         private static final int TEXT_LONGEST = 120;
-        private static final int HIGHEST_OF_LENGTH = CODE_MOST >> 8;
 
         private byte[] bytes = new byte[0];
         int size;
@@ -3171,7 +3170,7 @@ public final class ClassMill {
 
         private void readCode(int row) {
             int from = pos;
-            int high = nextUpTo(0, HIGHEST_OF_LENGTH);
+            int high = next();
             int length = high << 8 | next();
             if (length < 1 || length > CODE_MOST) {
                 bad(from);

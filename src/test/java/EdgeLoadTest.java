@@ -428,6 +428,14 @@ public final class EdgeLoadTest {
         form(b, "LENGTH 65535", with(with(row, at, 255), at + 1, 255), at);
         form(b, "LENGTH 32768", with(with(row, at, 128), at + 1, 0), at);
         form(b, "LENGTH 0", with(row, at + 1, 0), at);
+        // with one byte there is no LENGTH yet: bytes are missing, whatever the one is
+        for (int high : new int[] {0, 5, 6, 96, 255}) {
+            form(b, "half a LENGTH, " + high, Arrays.copyOf(with(row, at, high), at + 1), at + 1);
+        }
+        // what a LENGTH is wrong by comes ahead of the CODE that is missing behind it
+        form(b, "LENGTH 1501 and no more", Arrays.copyOf(with(with(row, at, 5), at + 1, 221), at + 2), at);
+        form(b, "LENGTH 1500 and no more", Arrays.copyOf(with(with(row, at, 5), at + 1, 220), at + 2), at + 2);
+        form(b, "LENGTH 0 and no more", Arrays.copyOf(with(row, at + 1, 0), at + 2), at);
         form(b, "its second byte is missing", Arrays.copyOf(row, at + 1), at + 1);
         form(b, "all CODE is missing", Arrays.copyOf(row, at + 2), at + 2);
         form(b, "CODE is missing", Arrays.copyOf(with(with(row, at, 5), at + 1, 220), at + 3), at + 3);
